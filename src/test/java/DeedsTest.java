@@ -6,6 +6,7 @@ public final class DeedsTest {
         voices();
         kinds();
         heardAddsUp();
+        theLastNotch();
         sungToHasABound();
         lateHasABound();
         carried();
@@ -111,6 +112,23 @@ public final class DeedsTest {
         Due.due("told(9)", x.told(9), 1);
         x.evening(1);
         Due.dueChild("next evening", x, 0, 1, 4, 0, 1, 0, 1, 8);
+    }
+
+    private static void theLastNotch() {
+        LullabyDebts x = Due.withRow("r1 1;s1 49 1 0;c0 1 0;");
+        x.sing(0, 0);
+        x.evening(3);
+        Due.due("one notch is left", x.singer(0, 2), 1);
+        Due.due("he is not free", x.told(7), 0);
+        Due.due("told(11)", x.told(11), 0);
+        Due.due("can(0, 0)", x.can(0, 0), 1);
+        Due.due("pays(0, 0)", x.pays(0, 0), 1);
+        Due.due("round(0, 0)", x.round(0, 0), 1);
+        Due.due("never", x.singer(0, 6), 1);
+        x.evening(1);
+        Due.due("in default for one notch", x.told(8), 1);
+        Due.due("sing(0, 0)", x.sing(0, 0), 1);
+        Due.due("he is free", x.told(7), 1);
     }
 
     private static void sungToHasABound() {

@@ -58,6 +58,17 @@ public final class OwedTest {
         Due.due("like ones", Due.withRow("r1 1;s0 1 5 0;s0 1 5 0;").ask(), Due.NONE);
         Due.due("one apart", Due.withRow("r1 1;s0 1 5 0;s0 1 5 0;s0 1 0 0;").ask(), 1);
         Due.due("the far one", Due.withRow("r1 1;s0 1 99 0;s0 1 98 0;").ask(), 197);
+        LullabyDebts x = Due.withRow("r1 1;s1 1 99 0;s1 1 99 0;c0 1 0;");
+        x.sing(0, 0);
+        Due.due("198 and 197", x.ask(), 198);
+        LullabyDebts y = Due.withRow("r1 1;s0 1 50 0;s0 1 8 0;s0 1 7 0;s0 1 6 0;s0 1 5 0;s0 1 0 0;");
+        Due.due("six", y.ask(), 13);
+        y.owed(20, false);
+        Due.due("less than 20", y.ask(), 11);
+        y.owed(1, true);
+        Due.due("more than none", y.ask(), 13);
+        LullabyDebts z = Due.withRow("r1 1;s0 1 0 0;s0 1 5 0;s0 1 6 0;s0 1 7 0;s0 1 8 0;s0 1 50 0;");
+        Due.due("six the other way", z.ask(), 13);
         Due.due("three", Due.withRow("r1 1;s0 1 9 0;s0 1 4 0;s0 1 1 0;").ask(), 3);
         Due.due("two against three", Due.withRow("r1 1;s0 1 9 0;s0 1 9 0;s0 1 4 0;s0 1 1 0;s0 1 1 0;").ask(), 3);
     }

@@ -69,6 +69,8 @@ public final class RowTest {
         Due.dueRow(x, "r1 1;" + "s0 1 0 0;".repeat(6) + "c0 1 0;".repeat(6), 6, Due.NONE);
         Due.dueTold("full", x, 1, 1, 6, 6);
         Due.dueRow(x, "r1 1;c0 1 0;s000 001 000 000;c0 1 0;s0 1 0 0;", 2, Due.NONE);
+        Due.dueRow(x, "r1 1;x", -11, 5);
+        Due.dueRow(x, "r1 1;", 0, Due.NONE);
     }
 
     private static void misplaced() {
@@ -138,7 +140,7 @@ public final class RowTest {
         x.evening(1);
         x.owed(1, true);
         x.write(0, 2);
-        Due.dueRow(x, "r3 5;s0 40 3 1;c0 2 3;", -12, 20);
+        Due.dueRow(x, "r9 9;s1 5 5 5;s1 5 5 5;c1 1 9;", -12, 28);
         Due.dueTold("behind a fault", x, 3, 5, 1, 1, 0, 1, 1, 0, 0, 0, 2, 0, 0, 0, 1, 0, 1, 1, 2);
         Due.due("judge()", x.judge(), Due.NONE);
         Due.due("undo(2)", x.undo(2), 0);
@@ -160,6 +162,10 @@ public final class RowTest {
         Due.dueRow(x, "r2 2;", 0, Due.NONE);
         Due.dueRow(x, "   ", 0, Due.NONE);
         Due.due("told(0) of blanks", x.told(0), 0);
+        Due.dueRow(x, "r4 4;s0 1 1 1;c0 1 1;", 1, Due.NONE);
+        Due.dueRow(x, "r3 3;s0 1 1 1;c0 1 1;", 1, Due.NONE);
+        Due.dueRow(x, " ", 0, Due.NONE);
+        Due.dueTold("empty behind two", x, 0, 0, 0, 0, 0, 0, 0);
     }
 
     private static void rowBeginsAnew() {

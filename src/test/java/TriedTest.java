@@ -5,6 +5,7 @@ public final class TriedTest {
         stepsCanPays();
         plans();
         planOfLikeOnes();
+        planOfAll();
         mostAsleepIsNotMostPaid();
         rounds();
         roundEndsWhenFree();
@@ -83,6 +84,27 @@ public final class TriedTest {
         LullabyDebts y = Due.withRow("r1 9;s0 20 1 0;s0 20 1 0;c0 2 0;c0 3 0;c0 1 0;");
         Due.due("plan(0)", y.plan(0), 0);
         Due.due("plan(1)", y.plan(1), 1);
+    }
+
+    private static void planOfAll() {
+        LullabyDebts x = Due.withRow("r6 30;" + "s0 20 9 0;".repeat(6) + "c0 1 5;c0 2 4;c0 3 3;c0 4 2;c0 5 1;c0 6 0;");
+        Due.due("plan(-1)", x.plan(-1), 42);
+        for (int s = 0; s < 6; s++) {
+            Due.due("plan(" + s + ")", x.plan(s), s);
+        }
+        Due.due("told(14)", x.told(14), 6);
+        // Each singer reaches one child alone.
+        LullabyDebts y = Due.withRow("r12 1;s0 20 9 10;s0 20 9 8;s0 20 9 6;s0 20 9 4;s0 20 9 2;s0 20 9 0;"
+            + "c0 1 0;c0 1 2;c0 1 4;c0 1 6;c0 1 8;c0 1 10;");
+        for (int s = 0; s < 6; s++) {
+            Due.due("plan(" + s + ")", y.plan(s), 5 - s);
+        }
+        Due.due("plan(-1)", y.plan(-1), 12);
+        Due.due("told(14)", y.told(14), 6);
+        y.sing(2, 3);
+        Due.due("plan(-1) with one asleep", y.plan(-1), 10);
+        Due.due("plan(2) with one asleep", y.plan(2), Due.NONE);
+        Due.due("plan(5) with one asleep", y.plan(5), 0);
     }
 
     private static void mostAsleepIsNotMostPaid() {
@@ -173,6 +195,8 @@ public final class TriedTest {
         Due.due("told(7)", x.told(7), 7);
         LullabyDebts y = Due.withRow("r9 30;s0 20 3 4;c0 7 4;");
         Due.due("told(13) of one", y.told(13), 0);
+        Due.due("told(13) of one in the first house", Due.withRow("r9 30;c0 7 0;").told(13), 0);
+        Due.due("told(13) of two in the last house", Due.withRow("r20 30;c0 7 19;c0 7 19;").told(13), 0);
         LullabyDebts z = Due.withRow("r9 30;");
         Due.due("told(11) of none", z.told(11), Due.NONE);
         Due.due("told(12) of none", z.told(12), Due.NONE);
