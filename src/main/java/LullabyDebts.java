@@ -487,7 +487,7 @@ public final class LullabyDebts {
             row.children++;
         }
 
-        /** The next number; 0 if there is a fault, whose row is thrown away. */
+        /** The next number; 0 with a fault, as a row with a fault is never used. */
         private int readNumber(int least, int most) {
             skipBlanks();
             int start = at;

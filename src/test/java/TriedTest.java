@@ -105,6 +105,15 @@ public final class TriedTest {
         Due.due("plan(-1) with one asleep", y.plan(-1), 10);
         Due.due("plan(2) with one asleep", y.plan(2), Due.NONE);
         Due.due("plan(5) with one asleep", y.plan(5), 0);
+        // What was reckoned for six singers must not count for fewer.
+        Due.dueRow(x, "r1 9;s0 20 9 0;s0 20 9 0;c0 1 0;c0 2 0;c0 3 0;", 2, Due.NONE);
+        Due.due("plan(-1) of fewer", x.plan(-1), 10);
+        Due.due("plan(0) of fewer", x.plan(0), 1);
+        Due.due("plan(1) of fewer", x.plan(1), 2);
+        Due.due("told(14) of fewer", x.told(14), 2);
+        Due.dueRow(x, "r1 9;c0 1 0;c0 2 0;c0 3 0;", 0, Due.NONE);
+        Due.due("plan(-1) of no singers", x.plan(-1), 0);
+        Due.due("told(14) of no singers", x.told(14), 0);
     }
 
     private static void mostAsleepIsNotMostPaid() {
