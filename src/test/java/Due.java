@@ -59,6 +59,20 @@ final class Due {
         }
     }
 
+    /** Two snapshots, answer by answer. */
+    static void dueSame(String when, String got, String want) {
+        String[] gotLines = got.split("\n");
+        String[] wantLines = want.split("\n");
+        due(when + ": how many answers", gotLines.length, wantLines.length);
+        for (int i = 0; i < Math.min(gotLines.length, wantLines.length); i++) {
+            calls++;
+            if (!gotLines[i].equals(wantLines[i])) {
+                wrong++;
+                System.out.println(when + ": " + gotLines[i] + ", due is " + wantLines[i]);
+            }
+        }
+    }
+
     static void end(String test) {
         System.out.println(test + ": " + calls + " answers, " + wrong + " of them wrong");
         if (wrong != 0) {

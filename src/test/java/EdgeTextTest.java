@@ -31,6 +31,7 @@ public final class EdgeTextTest {
         sevenSingers();
         sevenChildren();
         housesAgain();
+        rowIsAsInANewObject();
         emptyTexts();
         faultOfTheLatestRow();
         call512();
@@ -378,6 +379,42 @@ public final class EdgeTextTest {
         LullabyDebts x = read("r1 1;", 0, Due.NONE);
         Due.dueRow(x, "r2 2;", 0, Due.NONE);
         Due.due("told(0): once in each text", x.told(0), 2);
+    }
+
+    /**
+     * "THE TEXT ... becomes THE ROW (EVENING 0, all at home, with D SONGS, owing as told, all CHILDREN awake, where told,
+     * nothing HEARD, SUNG TO 0, nobody LATE, IN DEFAULT; nothing OWED, no BOOK; IMAGES, what could be undone are gone"
+     */
+    private static void rowIsAsInANewObject() {
+        String ahead = "r9 4;" + "s1 49 9 1;".repeat(6) + "c3 1 1;".repeat(5) + "c0 9 1;";
+        String[] texts = {ahead, "r9 4;s1 49 9 1;s0 3 3 3;c3 1 1;", "r1 1;c0 1 0;", "r2 2;s0 1 1 1;", "r1 1;", "", " "};
+        for (String text : texts) {
+            LullabyDebts used = Due.withRow(ahead);
+            used.keep(0);
+            Due.due("plan(-1)", used.plan(-1), 5);
+            Due.due("round(0, 1)", used.round(0, 1), 1234);
+            for (int i = 0; i < 6; i++) {
+                used.sing(i, i);
+                used.owed(i, true);
+                used.write(i, 3);
+            }
+            used.carry(5, 1);
+            Due.due("one was late", used.told(9), 1);
+            used.evening(4);
+            used.keep(1);
+            for (int i = 0; i < 6; i++) {
+                used.sing(i, i);
+                used.go(i, 2);
+            }
+            LullabyDebts anew = new LullabyDebts();
+            Due.feedAll(used, text);
+            Due.feedAll(anew, text);
+            Due.due("row() of '" + text + "'", used.row(), anew.row());
+            for (int s = -1; s < 6; s++) {
+                Due.due("plan(" + s + ") of '" + text + "'", used.plan(s), anew.plan(s));
+            }
+            Due.dueSame("row() of '" + text + "' as in a new object", Snapshot.whole(used), Snapshot.whole(anew));
+        }
     }
 
     /** "An empty text (or one of blanks alone): no ROW." */

@@ -202,6 +202,11 @@ public final class EdgeTriedTest {
         Due.due("plan(6)", x.plan(6), Due.UNKNOWN);
         Due.due("plan(least)", x.plan(Integer.MIN_VALUE), Due.UNKNOWN);
         Due.due("plan(greatest)", x.plan(Integer.MAX_VALUE), Due.UNKNOWN);
+        // Of six and six the sixth singer can't reach any child, and so leaves the last place in the plan empty.
+        LullabyDebts far = Due.withRow("r9 5;" + "s0 20 9 0;".repeat(5) + "s0 20 9 8;" + "c0 1 0;".repeat(6));
+        Due.due("plan(4) of six and six", far.plan(4), 4);
+        Due.due("plan(5) who can't", far.plan(5), Due.NONE);
+        Due.due("plan(-1) of six and six", far.plan(-1), 10);
         LullabyDebts none = new LullabyDebts();
         Due.due("plan(-1) without a ROW", none.plan(-1), 0);
         Due.due("plan(0) without a ROW", none.plan(0), Due.UNKNOWN);
@@ -291,6 +296,10 @@ public final class EdgeTriedTest {
         Due.due("round(5, 0)", x.round(5, 0), 6);
         Due.due("round(5, 1)", x.round(5, 1), 123456);
         Due.due("five songs for six", Due.withRow("r1 5;s0 20 99 0;" + "c0 1 0;".repeat(6)).round(0, 1), 12345);
+        LullabyDebts free = Due.withRow("r1 6;s0 20 99 0;s0 20 0 0;c0 1 0;");
+        Due.due("round(0, 1) of one who owes", free.round(0, 1), 1);
+        Due.due("round(1, 1) of one who is FREE, behind it", free.round(1, 1), 0);
+        Due.due("round(1, 0) of one who is FREE, behind it", free.round(1, 0), 0);
         LullabyDebts none = Due.withRow("r1 6;s0 20 99 0;");
         Due.due("round(0, 0) of no children", none.round(0, 0), 0);
         Due.due("round(0, 1) of no children", none.round(0, 1), 0);
@@ -412,6 +421,7 @@ public final class EdgeTriedTest {
     private static void spread() {
         Due.due("of none", Due.withRow("r20 9;").told(13), 0);
         Due.due("of one", Due.withRow("r20 9;c0 1 19;").told(13), 0);
+        Due.due("of one in the first house", Due.withRow("r20 9;c0 1 0;").told(13), 0);
         Due.due("of two in one house", Due.withRow("r20 9;c0 1 7;c0 1 7;").told(13), 0);
         Due.due("of two beside one another", Due.withRow("r20 9;c0 1 8;c0 1 7;").told(13), 1);
         Due.due("of all", Due.withRow("r20 9;c0 1 19;c0 1 7;c0 1 0;").told(13), 19);

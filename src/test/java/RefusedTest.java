@@ -75,16 +75,7 @@ public final class RefusedTest {
         LullabyDebts with = object.get();
         LullabyDebts without = object.get();
         Due.due(call, made.applyAsInt(with), refusal);
-        dueSame(call, Snapshot.whole(with), Snapshot.whole(without));
-    }
-
-    private static void dueSame(String call, String with, String without) {
-        String[] got = with.split("\n");
-        String[] want = without.split("\n");
-        Due.due(call + ": answers behind it", got.length, want.length);
-        for (int i = 0; i < Math.min(got.length, want.length); i++) {
-            Due.due(call + " changed nothing: " + got[i] + " for " + want[i], got[i].equals(want[i]) ? 1 : 0, 1);
-        }
+        Due.dueSame(call + " changed nothing", Snapshot.whole(with), Snapshot.whole(without));
     }
 
     private static void feeds() {
@@ -347,7 +338,7 @@ public final class RefusedTest {
         LullabyDebts with = above9000();
         LullabyDebts without = above9000();
         Due.due(call + " at 9001", made.applyAsInt(with), refusal);
-        dueSame(call + " at 9001", Snapshot.brief(with), Snapshot.brief(without));
+        Due.dueSame(call + " at 9001 changed nothing", Snapshot.brief(with), Snapshot.brief(without));
     }
 
     /** "-10 less the number of its FAULT (all is as it was)": but for the text and the fault's letter. */
@@ -364,7 +355,7 @@ public final class RefusedTest {
             // The fault's letter is the same again behind one more text with a fault.
             Due.dueRow(with, "r2;", -11, 2);
             Due.dueRow(without, "r2;", -11, 2);
-            dueSame("row() of '" + texts[i] + "'", Snapshot.whole(with), Snapshot.whole(without));
+            Due.dueSame("row() of '" + texts[i] + "' changed nothing", Snapshot.whole(with), Snapshot.whole(without));
         }
     }
 
@@ -392,6 +383,6 @@ public final class RefusedTest {
         for (int what = 0; what <= 18; what++) {
             with.told(what);
         }
-        dueSame("what is tried", Snapshot.whole(with), Snapshot.whole(without));
+        Due.dueSame("what is tried changes nothing", Snapshot.whole(with), Snapshot.whole(without));
     }
 }
