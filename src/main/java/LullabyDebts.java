@@ -25,6 +25,7 @@ public final class LullabyDebts {
     private static final int MOST_ENTRIES = 20;
     private static final int MOST_IMAGES = 2;
     private static final int WIDOWER = 2;
+    private static final long SEEDS = 2147483648L;
 
     private final Reader reader = new Reader();
     private final Mountain mountain = new Mountain();
@@ -33,11 +34,11 @@ public final class LullabyDebts {
     private final Past past = new Past();
     private final Tellings tellings = new Tellings();
     private final Book book = new Book();
-    private final Draws draws = new Draws();
     private final Image[] images = new Image[MOST_IMAGES];
 
     // A text is read into the spare row, so that a fault in it leaves the row that stands untouched.
     private Row spare = new Row();
+    private int seedNow;
 
     public LullabyDebts() {
         for (int i = 0; i < MOST_IMAGES; i++) {
@@ -312,8 +313,8 @@ public final class LullabyDebts {
         if (v < 0) {
             return OUTSIDE;
         }
-        int before = draws.state;
-        draws.state = v;
+        int before = seedNow;
+        seedNow = v;
         return before;
     }
 
@@ -323,7 +324,7 @@ public final class LullabyDebts {
         }
         Image image = images[i];
         image.night.copyFrom(mountain.now);
-        image.drawState = draws.state;
+        image.seed = seedNow;
         image.kept = true;
         past.forget();
         return 1;
@@ -338,7 +339,7 @@ public final class LullabyDebts {
             return NOT;
         }
         mountain.now.copyFrom(image.night);
-        draws.state = image.drawState;
+        seedNow = image.seed;
         past.forget();
         return 1;
     }
@@ -358,9 +359,9 @@ public final class LullabyDebts {
         if (mountain.facts.singers == 0 || mountain.facts.children == 0) {
             return;
         }
-        int deed = draws.drawOf(6);
-        int s = draws.drawOf(mountain.facts.singers);
-        int c = draws.drawOf(mountain.facts.children);
+        int deed = drawOf(6);
+        int s = drawOf(mountain.facts.singers);
+        int c = drawOf(mountain.facts.children);
         if (deed == 5) {
             mountain.endEvening();
         } else if (deed == 4) {
@@ -370,6 +371,11 @@ public final class LullabyDebts {
         } else {
             mountain.visit(s, c);
         }
+    }
+
+    private int drawOf(int n) {
+        seedNow = (int) ((seedNow * 1103515245L + 12345L) % SEEDS);
+        return n > 0 ? seedNow / 65536 % n : 0;
     }
 
     /** What a text tells, and no deed changes. */
@@ -568,10 +574,10 @@ public final class LullabyDebts {
         }
     }
 
-    /** A night that is kept, with the state of the draws. */
+    /** A night that is kept, with the seed. */
     private static final class Image {
         final Night night = new Night();
-        int drawState;
+        int seed;
         boolean kept;
     }
 
@@ -1068,18 +1074,6 @@ public final class LullabyDebts {
                 }
             }
             return NONE;
-        }
-    }
-
-    /** Draws, each from the state that the one ahead of it left. */
-    private static final class Draws {
-        private static final long STATES = 2147483648L;
-
-        int state;
-
-        int drawOf(int n) {
-            state = (int) ((state * 1103515245L + 12345L) % STATES);
-            return n > 0 ? state / 65536 % n : 0;
         }
     }
 }
